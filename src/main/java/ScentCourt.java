@@ -864,11 +864,8 @@ public final class ScentCourt {
         final int[] many = new int[MOST_LINES.length];
         private final long[] names = new long[3 * WIDE];
         final int[] fade = new int[WIDE];
-        // By PLACE and SCENT, as air.
-        final int[] told = new int[WIDE * WIDE];
+        // By PLACE and SCENT.
         final int[] air = new int[WIDE * WIDE];
-        // 1 by SCENT, from where and to where.
-        final int[] smoke = new int[WIDE * WIDE * WIDE];
         final int[] keep = new int[WIDE];
         final int[] start = new int[WIDE];
         // By HOUR and WITNESS the PLACE and 1; 0 where none is told.
@@ -879,9 +876,7 @@ public final class ScentCourt {
             Arrays.fill(many, 0);
             Arrays.fill(names, 0);
             Arrays.fill(fade, 0);
-            Arrays.fill(told, 0);
             Arrays.fill(air, 0);
-            Arrays.fill(smoke, 0);
             Arrays.fill(keep, 0);
             Arrays.fill(start, 0);
             Arrays.fill(went, 0);
@@ -892,9 +887,7 @@ public final class ScentCourt {
             copy(other.many, many);
             System.arraycopy(other.names, 0, names, 0, Math.min(other.names.length, names.length));
             copy(other.fade, fade);
-            copy(other.told, told);
             copy(other.air, air);
-            copy(other.smoke, smoke);
             copy(other.keep, keep);
             copy(other.start, start);
             copy(other.went, went);
@@ -974,6 +967,10 @@ public final class ScentCourt {
     private static final class HillText {
         private final Tape tape;
         final Hill draft = new Hill();
+        // By PLACE and SCENT: what smoke is half of, whatever smoke comes there.
+        private final int[] told = new int[WIDE * WIDE];
+        // 1 by SCENT, from where and to where.
+        private final int[] smoke = new int[WIDE * WIDE * WIDE];
 
         HillText(Tape tape) {
             this.tape = tape;
@@ -981,6 +978,8 @@ public final class ScentCourt {
 
         int read() {
             draft.clear();
+            Arrays.fill(told, 0);
+            Arrays.fill(smoke, 0);
             tape.begin(HILL_BYTES);
             for (int lines = 0; lines < TAPE_BYTES; lines++) {
                 if (tape.kind == END) {
@@ -1042,13 +1041,13 @@ public final class ScentCourt {
                 return false;
             }
             int i = place * WIDE + tape.value;
-            if (at(draft.told, i) != 0) {
+            if (at(told, i) != 0) {
                 return tape.failAtTaken(WRONG_NAME);
             }
             if (!tape.takeNumber(1, 9)) {
                 return false;
             }
-            put(draft.told, i, tape.value);
+            put(told, i, tape.value);
             put(draft.air, i, tape.value);
             return true;
         }
@@ -1083,12 +1082,12 @@ public final class ScentCourt {
             }
             int to = tape.value;
             int i = (scent * WIDE + from) * WIDE + to;
-            if (from == to || at(draft.smoke, i) != 0) {
+            if (from == to || at(smoke, i) != 0) {
                 return tape.failAtTaken(WRONG_NAME);
             }
-            put(draft.smoke, i, 1);
+            put(smoke, i, 1);
             int blown = to * WIDE + scent;
-            put(draft.air, blown, at(draft.air, blown) + at(draft.told, from * WIDE + scent) / 2);
+            put(draft.air, blown, at(draft.air, blown) + at(told, from * WIDE + scent) / 2);
             return addLine(SMOKE);
         }
 
@@ -1494,7 +1493,7 @@ public final class ScentCourt {
         private final int[] foundOrder = new int[CLOTHS];
         // By CLOTH its strongest SCENT.
         private final int[] strongestOf = new int[CLOTHS];
-        // The row that is tried, and what REMAINS ahead of each of its CLOTHS.
+        // The row that is tried, and what REMAINS ahead of each of its CLOTHS: ahead of the first nothing.
         private final int[] tried = new int[CLOTHS];
         private final int[] leftAhead = new int[(CLOTHS + 1) * WIDE];
         // By sets of CLOTHS as bits: 1 if one NOSE can open it; the fewest NOSES.
@@ -1528,7 +1527,7 @@ public final class ScentCourt {
             return at(fewestNoses, all);
         }
 
-        private boolean isAnyClean(World world) {
+        private static boolean isAnyClean(World world) {
             for (int c = 0; c < world.cloths; c++) {
                 if (strongest(world.cloth, c) == NONE) {
                     return true;
@@ -1579,7 +1578,6 @@ public final class ScentCourt {
         /** Whether one NOSE can open all CLOTHS; if not, every set that one can open is marked. */
         private boolean canOneNose(World world) {
             Arrays.fill(byOneNose, 0);
-            Arrays.fill(leftAhead, 0);
             for (int c = 0; c < world.cloths; c++) {
                 put(strongestOf, c, strongest(world.cloth, c));
             }
@@ -1634,7 +1632,7 @@ public final class ScentCourt {
         // By SCENT the most that the AIR of a PLACE has.
         private final int[] mostAir = new int[WIDE];
         private final int[] row = new int[WAS_HOURS + 1];
-        // What the COAT has behind each HOUR of the row.
+        // What the COAT has behind each HOUR of the row: at HOUR 0 nothing.
         private final int[] coatBehind = new int[(WAS_HOURS + 1) * WIDE];
 
         int search(Hill hill, Tape tape, int w, int n) {
@@ -1646,7 +1644,6 @@ public final class ScentCourt {
             }
             findMostAir(hill);
             Arrays.fill(rowsBy, 0);
-            Arrays.fill(coatBehind, 0);
             tryHour(hill, w, 1);
             return found;
         }
@@ -1717,7 +1714,7 @@ public final class ScentCourt {
         private final int[] told = new int[WIDE * WIDE];
         // By HOUR and WITNESS.
         private final int[] where = new int[(TOLD_HOURS + 1) * WIDE];
-        // By HOUR, COAT and SCENT: what it has behind the HOUR, if none changes.
+        // By HOUR, COAT and SCENT: what it has behind the HOUR, if none changes; at HOUR 0 nothing.
         private final int[] coatBehind = new int[(TOLD_HOURS + 1) * WIDE * WIDE];
         private final int[] trial = new int[WIDE];
 
@@ -1747,7 +1744,6 @@ public final class ScentCourt {
         }
 
         private void passAllHours(Hill hill) {
-            Arrays.fill(coatBehind, 0);
             copy(hill.start, where);
             for (int hour = 1; hour <= hours; hour++) {
                 for (int w = 0; w < witnesses; w++) {
