@@ -1,5 +1,3 @@
-import java.util.NoSuchElementException;
-
 /** Promise by promise: ordinary inputs, the edges that the document names, wrong inputs; worked out by hand. */
 public final class PromisesTest {
     private static final Check CHECK = new Check("PromisesTest");
@@ -54,24 +52,6 @@ public final class PromisesTest {
         int lines = Check.hill(court, hill);
         due("LINES of " + hill, lines, hill.chars().filter(sign -> sign == ';').count());
         return court;
-    }
-
-    private static boolean airThrows(ScentCourt court, int place, int scent) {
-        try {
-            court.air(place, scent);
-            return false;
-        } catch (NoSuchElementException e) {
-            return true;
-        }
-    }
-
-    private static boolean witnessThrows(ScentCourt court, int w, int what) {
-        try {
-            court.witness(w, what);
-            return false;
-        } catch (NoSuchElementException e) {
-            return true;
-        }
     }
 
     private static void coat(ScentCourt court, int w, int... much) {
@@ -169,7 +149,7 @@ public final class PromisesTest {
         due("one that begins behind 900", Check.hill(court, "rain" + Check.repeat(" ", 896) + "61;"), -901);
         due("its kind", court.fault(), 1);
         due("the end", Check.hill(court, "rain 6  "), -9);
-        hillFaults(court);
+        hillFaults(new ScentCourt());
     }
 
     private static void fault(ScentCourt court, String text, int place, int kind) {
@@ -246,8 +226,8 @@ public final class PromisesTest {
             }
         }
         for (int wrong : new int[] {-1, 3, 6, FAR, DEEP}) {
-            due("no such PLACE " + wrong, airThrows(court, wrong, 0), true);
-            due("no such SCENT " + wrong, airThrows(court, 0, wrong), true);
+            due("no such PLACE " + wrong, Throws.air(court, wrong, 0), true);
+            due("no such SCENT " + wrong, Throws.air(court, 0, wrong), true);
             due("FADE of none", court.fade(wrong), -1);
             due("source of none", court.source(wrong), -1);
         }
@@ -293,7 +273,7 @@ public final class PromisesTest {
         due("cut later", court.box(1, 2), 3);
         cloth(court, 0, 0, 4, 12);
         for (int wrong : new int[] {-1, 3, 8, FAR, DEEP}) {
-            due("no such WITNESS " + wrong, witnessThrows(court, wrong, 0), true);
+            due("no such WITNESS " + wrong, Throws.witness(court, wrong, 0), true);
             due("no such COAT", court.coat(wrong, 0), -1);
             due("no SCENT on a COAT", court.coat(0, wrong), -1);
             due("no such CLOTH", court.cloth(wrong, 0), -1);
@@ -302,7 +282,7 @@ public final class PromisesTest {
         }
         due("no CLOTH yet", court.cloth(2, 0), -1);
         for (int wrong : new int[] {-1, 5, FAR, DEEP}) {
-            due("no such what " + wrong, witnessThrows(court, 0, wrong), true);
+            due("no such what " + wrong, Throws.witness(court, 0, wrong), true);
             due("nothing of a CLOTH", court.box(0, wrong), -1);
         }
         ScentCourt like = court("scent s 0;scent t 0;place p s 2 t 2;witness a 1 p;");
