@@ -85,6 +85,11 @@ public final class LanguageTest {
                 CHECK.same("rule 1, a public name: " + method, names.contains(method.getName()), false);
             }
         }
+        for (Class<?> inside : ScentCourt.class.getDeclaredClasses()) {
+            for (Method method : inside.getDeclaredMethods()) {
+                CHECK.same("rule 1, a public name: " + method, names.contains(method.getName()), false);
+            }
+        }
         for (java.lang.reflect.Field field : ScentCourt.class.getDeclaredFields()) {
             boolean isNone = field.getName().equals("NONE");
             CHECK.same("rule 1: " + field, Modifier.isPrivate(field.getModifiers()), !isNone);
